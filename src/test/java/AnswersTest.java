@@ -9,6 +9,7 @@ public final class AnswersTest {
         levels();
         levelsGoByTheLongestChain();
         longestChain();
+        fullTable();
         answerStays();
         wrongArgumentsChangeNothing();
         Check.end();
@@ -68,6 +69,9 @@ public final class AnswersTest {
         Check.same("one group", Check.answer(t), "0 3");
         Check.same("grouped(1, 0)", t.grouped(1, 0), 6);
         Check.same("groups of rows that are SAME", Check.answer(t), "0 1 2 3 4 5");
+        t.change(0, 2, Integer.MIN_VALUE);
+        t.grouped(0, 2);
+        Check.same("row 0 in a group of its own", Check.answer(t), "0 1 2");
     }
 
     private static void groupedOfRowsThatPass() {
@@ -143,6 +147,23 @@ public final class AnswersTest {
         Check.same("answer(0)", t.answer(0), 23);
         Check.same("answer(23)", t.answer(23), 0);
         Check.same("answer(24)", t.answer(24), PreferTable.NONE);
+    }
+
+    private static void fullTable() {
+        PreferTable t = new PreferTable();
+        t.order(5, 0, 0, 0);
+        for (int i = 0; i < 24; i++) {
+            t.row(i % 2, i, 0, 0);
+        }
+        Check.same("best, if none is better", t.best(0), 24);
+        t.edge(0, 1, 0);
+        Check.same("best, if half are better", t.best(0), 12);
+        Check.same("grouped, each by itself", t.grouped(0, 1), 24);
+        Check.same("grouped, all together", t.grouped(0, 2), 12);
+        Check.same("the first", t.answer(0), 1);
+        Check.same("the last", t.answer(11), 23);
+        Check.same("top", t.top(0, 13), 13);
+        Check.same("the first of LEVEL 2", t.answer(12), 0);
     }
 
     private static void answerStays() {

@@ -140,6 +140,7 @@ public final class OrdersTest {
         Check.yes("an edge beside a way", t.edge(0, 9, 2));
         Check.no("edge(0, 9, 2) again", t.edge(0, 9, 2));
         Check.no("edge(0, 0, 1) again", t.edge(0, 0, 1));
+        Check.no("edge(0, 9, 0), the first of two from 9, again", t.edge(0, 9, 0));
         t.order(5, 3, 0, 0);
         Check.same("another node has edges of its own", t.compare(1, 0, 1), 0);
     }

@@ -119,6 +119,11 @@ public final class SavedTest {
         expect(t, 0, "1", "", "");
         t.remove(1);
         expect(t, 0, "0", "0", "1");
+        Check.same("save(0, 0) with nothing between", t.save(0, 0), 1);
+        expect(t, 0, "3", "", "");
+        t.condition(0, 1, 0);
+        Check.same("save(0, 0) with a condition", t.save(0, 0), 1);
+        expect(t, 0, "0", "", "");
     }
 
     private static void fourQuestions() {
