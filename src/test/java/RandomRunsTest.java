@@ -37,8 +37,15 @@ public final class RandomRunsTest {
 
     private void callOnce(int seed, int i) {
         int choice = random.nextInt(100);
-        String[] both = choice < 45 ? changing(choice) : choice < 85 ? asking(choice - 45) : saving(choice - 85);
+        String[] both = chosen(choice);
         Check.same("run " + seed + ", call " + i + ": " + call, both[0], both[1]);
+    }
+
+    private String[] chosen(int choice) {
+        if (choice < 45) {
+            return changing(choice);
+        }
+        return choice < 85 ? asking(choice - 45) : saving(choice - 85);
     }
 
     private String[] changing(int choice) {
@@ -85,7 +92,8 @@ public final class RandomRunsTest {
             int operation = within(6);
             int v = value();
             return pair("condition " + column + " " + operation + " " + v,
-                () -> table.condition(column, operation, v), () -> model.condition(column, operation, v));
+                () -> table.condition(column, operation, v),
+                () -> model.condition(column, operation, v));
         }
         return pair("free", () -> {
             table.free();
@@ -138,7 +146,8 @@ public final class RandomRunsTest {
                 () -> table.top(node, small), () -> model.top(node, small));
         }
         if (choice < 21) {
-            return pair("level " + node + " " + u, () -> table.level(node, u), () -> model.level(node, u));
+            return pair("level " + node + " " + u,
+                () -> table.level(node, u), () -> model.level(node, u));
         }
         if (choice < 27) {
             return pair("answer " + small, () -> table.answer(small), () -> model.answer(small));
@@ -162,7 +171,8 @@ public final class RandomRunsTest {
         int s = within(4);
         if (choice < 3) {
             int node = within(nodes);
-            return pair("save " + s + " " + node, () -> table.save(s, node), () -> model.save(s, node));
+            return pair("save " + s + " " + node,
+                () -> table.save(s, node), () -> model.save(s, node));
         }
         if (choice < 5) {
             return pair("read " + s, () -> table.read(s), () -> model.read(s));
@@ -186,7 +196,8 @@ public final class RandomRunsTest {
     }
 
     private int value() {
-        return random.nextInt(30) == 0 ? EXTREMES[random.nextInt(EXTREMES.length)] : random.nextInt(values);
+        boolean isExtreme = random.nextInt(30) == 0;
+        return isExtreme ? EXTREMES[random.nextInt(EXTREMES.length)] : random.nextInt(values);
     }
 
     private String[] pair(String text, Supplier<Object> got, Supplier<Object> due) {
