@@ -39,7 +39,7 @@ public final class PreferTable {
     private final Node[] nodes = new Node[MOST_NODES];
     private int nodeCount = 0;
     private final Conditions conditions = new Conditions();
-    private final Contest contest = new Contest(rows);
+    private final Contest contest = new Contest();
     private final RowList answered = new RowList();
     private final RowList nobody = new RowList();
     private final Question[] questions = new Question[QUESTIONS];
@@ -165,8 +165,8 @@ public final class PreferTable {
         if (!isNode(node)) {
             throw new IndexOutOfBoundsException("no such node");
         }
-        contest.hold(nodes[node], conditions);
-        contest.listUnbeaten(answered);
+        contest.hold(rows, nodes[node], conditions);
+        contest.listUnbeaten(rows, answered);
         return answered.count;
     }
 
@@ -174,9 +174,9 @@ public final class PreferTable {
         if (!isNode(node) || !isColumn(column)) {
             throw new IndexOutOfBoundsException("no such node or column");
         }
-        contest.hold(nodes[node], conditions);
-        contest.forgetOtherGroups(column);
-        contest.listUnbeaten(answered);
+        contest.hold(rows, nodes[node], conditions);
+        contest.forgetOtherGroups(rows, column);
+        contest.listUnbeaten(rows, answered);
         return answered.count;
     }
 
@@ -187,9 +187,9 @@ public final class PreferTable {
         if (n < 0) {
             throw new IllegalArgumentException("fewer than no rows");
         }
-        contest.hold(nodes[node], conditions);
+        contest.hold(rows, nodes[node], conditions);
         contest.rank();
-        contest.listFirst(n, answered);
+        contest.listFirst(rows, n, answered);
         return answered.count;
     }
 
@@ -198,7 +198,7 @@ public final class PreferTable {
         if (!isNode(node) || place == NONE) {
             throw new IndexOutOfBoundsException("no such node or row");
         }
-        contest.hold(nodes[node], conditions);
+        contest.hold(rows, nodes[node], conditions);
         contest.rank();
         return contest.levels[place];
     }
@@ -344,8 +344,8 @@ public final class PreferTable {
         if (question.alterationsSeen == alterations) {
             return;
         }
-        contest.hold(question.node, question.conditions);
-        contest.listUnbeaten(question.current);
+        contest.hold(rows, question.node, question.conditions);
+        contest.listUnbeaten(rows, question.current);
         question.alterationsSeen = alterations;
     }
 
@@ -506,17 +506,12 @@ public final class PreferTable {
 
     /** Who beats whom among the rows that pass; a set of rows is a mask of their places. */
     private static final class Contest {
-        final Rows rows;
         final int[] beaters = new int[MOST_ROWS_THERE];
         final int[] levels = new int[MOST_ROWS_THERE];
         int passing = 0;
 
-        Contest(Rows rows) {
-            this.rows = rows;
-        }
-
-        void hold(Node node, Conditions conditions) {
-            letIn(conditions);
+        void hold(Rows rows, Node node, Conditions conditions) {
+            letIn(rows, conditions);
             for (int i = 0; i < rows.count; i++) {
                 for (int j = i + 1; j < rows.count; j++) {
                     if (isIn(passing, i) && isIn(passing, j)) {
@@ -526,7 +521,7 @@ public final class PreferTable {
             }
         }
 
-        private void letIn(Conditions conditions) {
+        private void letIn(Rows rows, Conditions conditions) {
             passing = 0;
             for (int i = 0; i < rows.count; i++) {
                 beaters[i] = 0;
@@ -549,7 +544,7 @@ public final class PreferTable {
             return (places >> i & 1) == 1;
         }
 
-        void forgetOtherGroups(int column) {
+        void forgetOtherGroups(Rows rows, int column) {
             for (int i = 0; i < rows.count; i++) {
                 for (int j = 0; j < rows.count; j++) {
                     if (rows.values[i][column] != rows.values[j][column]) {
@@ -559,7 +554,7 @@ public final class PreferTable {
             }
         }
 
-        void listUnbeaten(RowList list) {
+        void listUnbeaten(Rows rows, RowList list) {
             list.clear();
             for (int i = 0; i < rows.count; i++) {
                 if (isIn(passing, i) && beaters[i] == 0) {
@@ -572,7 +567,7 @@ public final class PreferTable {
         void rank() {
             setLevel(~passing, 0);
             int left = passing;
-            for (int round = 1; round <= rows.count && left != 0; round++) {
+            for (int round = 1; round <= MOST_ROWS_THERE && left != 0; round++) {
                 int unbeaten = unbeatenAmong(left);
                 setLevel(unbeaten, round);
                 left &= ~unbeaten;
@@ -581,7 +576,7 @@ public final class PreferTable {
 
         private int unbeatenAmong(int left) {
             int unbeaten = 0;
-            for (int i = 0; i < rows.count; i++) {
+            for (int i = 0; i < MOST_ROWS_THERE; i++) {
                 if (isIn(left, i) && (beaters[i] & left) == 0) {
                     unbeaten |= 1 << i;
                 }
@@ -590,14 +585,14 @@ public final class PreferTable {
         }
 
         private void setLevel(int places, int given) {
-            for (int i = 0; i < rows.count; i++) {
+            for (int i = 0; i < MOST_ROWS_THERE; i++) {
                 if (isIn(places, i)) {
                     levels[i] = given;
                 }
             }
         }
 
-        void listFirst(int n, RowList list) {
+        void listFirst(Rows rows, int n, RowList list) {
             list.clear();
             for (int wanted = 1; wanted <= rows.count; wanted++) {
                 for (int i = 0; i < rows.count && list.count < n; i++) {
