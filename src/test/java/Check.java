@@ -1,9 +1,25 @@
+import java.util.function.Supplier;
+
 /** Compares answers with those that are due, and tells at the end whether all were. */
 final class Check {
     private static int made = 0;
     private static int wrong = 0;
+    private static String sentence = "";
 
     private Check() {
+    }
+
+    /** Runs the test of a sentence of the document; what is wrong in it is told with its words. */
+    static void sentence(String words, Runnable test) {
+        sentence = "'" + words + "': ";
+        int before = made;
+        try {
+            test.run();
+        } catch (RuntimeException e) {
+            same("the test", e.toString(), "nothing thrown");
+        }
+        yes("the test looks at something", made > before);
+        sentence = "";
     }
 
     static void same(String what, long got, long due) {
@@ -18,11 +34,15 @@ final class Check {
         same(what, Boolean.toString(got), "false");
     }
 
+    static void none(String what, int got) {
+        same(what, got, PreferTable.NONE);
+    }
+
     static void same(String what, String got, String due) {
         made++;
         if (!got.equals(due)) {
             wrong++;
-            System.out.println(what + " answered " + got + ", due is " + due);
+            System.out.println(sentence + what + " answered " + got + ", due is " + due);
         }
     }
 
@@ -39,20 +59,27 @@ final class Check {
     }
 
     private static void refuses(String what, Class<? extends RuntimeException> due, Runnable call) {
-        String got = "nothing thrown";
-        try {
+        String got = outcome(() -> {
             call.run();
+            return "nothing thrown";
+        });
+        same(what, got, due.getSimpleName());
+    }
+
+    /** What a call answers, or the name of what it throws. */
+    static String outcome(Supplier<Object> call) {
+        try {
+            return String.valueOf(call.get());
         } catch (RuntimeException e) {
-            got = e.getClass().getName();
+            return e.getClass().getSimpleName();
         }
-        same(what, got, due.getName());
     }
 
     /** The whole ANSWER, as in "0 3 5"; past both ends of it there must be none. */
     static String answer(PreferTable t) {
         int count = t.answer(-1);
-        same("answer(-2)", t.answer(-2), PreferTable.NONE);
-        same("answer past the end", t.answer(count), PreferTable.NONE);
+        none("answer(-2)", t.answer(-2));
+        none("answer past the end", t.answer(count));
         StringBuilder all = new StringBuilder();
         for (int i = 0; i < count; i++) {
             all.append(i == 0 ? "" : " ").append(t.answer(i));
@@ -63,8 +90,8 @@ final class Check {
     /** What saved(s, w, ..) tells, whole; past both ends of it there must be none. */
     static String saved(PreferTable t, int s, int w) {
         int count = t.saved(s, w, -1);
-        same("saved before the start", t.saved(s, w, -2), PreferTable.NONE);
-        same("saved past the end", t.saved(s, w, count), PreferTable.NONE);
+        none("saved before the start", t.saved(s, w, -2));
+        none("saved past the end", t.saved(s, w, count));
         StringBuilder all = new StringBuilder();
         for (int i = 0; i < count; i++) {
             all.append(i == 0 ? "" : " ").append(t.saved(s, w, i));

@@ -9,7 +9,7 @@ public final class ConditionsTest {
         Check.end();
     }
 
-    /** A table with one row for each value in column 0, and GRAPH, in which no row beats another. */
+    /** A table with a row for each value in column 0, and GRAPH, in which no row beats another. */
     private static PreferTable tableOf(int... values) {
         PreferTable t = new PreferTable();
         t.order(5, 3, 0, 0);

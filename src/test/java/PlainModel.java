@@ -222,7 +222,9 @@ final class PlainModel {
     private boolean passes(int row, List<Condition> all) {
         for (Condition c : all) {
             int order = Integer.compare(rows.get(row)[c.column()], c.number());
-            boolean[] holds = {order == 0, order != 0, order < 0, order <= 0, order > 0, order >= 0};
+            boolean[] holds = {
+                order == 0, order != 0, order < 0, order <= 0, order > 0, order >= 0,
+            };
             if (!holds[c.operation()]) {
                 return false;
             }
@@ -299,7 +301,8 @@ final class PlainModel {
         }
         TreeMap<Integer, Integer> levels = levels(node);
         List<Integer> all = new ArrayList<>(levels.keySet());
-        all.sort((u, v) -> levels.get(u).equals(levels.get(v)) ? u - v : levels.get(u) - levels.get(v));
+        // The sort keeps rows of the same LEVEL as they were: by rising numbers.
+        all.sort((u, v) -> levels.get(u) - levels.get(v));
         answer = List.copyOf(all.subList(0, Math.min(n, all.size())));
         return answer.size();
     }

@@ -202,14 +202,6 @@ public final class RandomRunsTest {
 
     private String[] pair(String text, Supplier<Object> got, Supplier<Object> due) {
         call = text;
-        return new String[] {outcome(got), outcome(due)};
-    }
-
-    private static String outcome(Supplier<Object> asked) {
-        try {
-            return String.valueOf(asked.get());
-        } catch (RuntimeException e) {
-            return e.getClass().getName();
-        }
+        return new String[] {Check.outcome(got), Check.outcome(due)};
     }
 }

@@ -16,7 +16,7 @@ public final class ReduceTest {
         priorWithColumnsInside();
         dualsArePulledOut();
         partsAreReducedFirst();
-        longestForm();
+        longForm();
         formStays();
         wrongArguments();
         Check.end();
@@ -154,8 +154,8 @@ public final class ReduceTest {
         expect(t, t.term(PRIOR, 6, high), "7 5 3 6 1 1");
     }
 
-    /** Twenty times BETWEEN in a term of SIZE 39: the longest FORM that there is. */
-    private static void longestForm() {
+    /** Twenty times BETWEEN in a term of SIZE 39. */
+    private static void longForm() {
         PreferTable t = new PreferTable();
         int four = t.order(3, 0, 0, 0);
         for (int i = 1; i < 4; i++) {
