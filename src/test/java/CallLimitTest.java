@@ -105,13 +105,17 @@ public final class CallLimitTest {
         Check.same("call 512", t.saved(0, 0, 0), 119);
     }
 
+    /** However many changes lie between two looks: 6 calls, the changes, and two looks. */
     private static void valueChanges() {
-        PreferTable t = Bounds.tableOf(0, 0, 0);
-        t.order(1, 0, 0, 0);
-        t.save(0, 0);
-        for (int i = 6; i < CALLS - 1; i++) {
-            t.change(i % 2, 0, i);
+        for (int changes = 1; changes <= CALLS - 8; changes++) {
+            PreferTable t = Bounds.tableOf(0, 0, 0);
+            t.order(1, 0, 0, 0);
+            Check.same("both are BEST", t.save(0, 0), 2);
+            for (int i = 1; i <= changes; i++) {
+                t.change(i % 2, 0, i);
+            }
+            Check.same("one is BEST after " + changes, t.saved(0, 0, -1), 1);
+            Check.same("the one that changed last", t.saved(0, 0, 0), changes % 2);
         }
-        Check.same("the one that changed last is BEST", t.saved(0, 0, 0), 0);
     }
 }
