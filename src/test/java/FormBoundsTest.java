@@ -1,5 +1,6 @@
 import java.util.List;
 import java.util.function.Supplier;
+import java.util.function.ToIntFunction;
 
 /** REDUCING, and promises 22 and 23, at their bounds: a test for each sentence. */
 public final class FormBoundsTest {
@@ -9,6 +10,18 @@ public final class FormBoundsTest {
     private static final int PRIOR = 7;
     private static final int BOTH = 8;
     private static final int DUAL = 9;
+
+    // The FORMs of the orders of table().
+    private static final List<String> FORMS =
+        List.of("0 0", "1 1", "2 2 5", "3 3 1 2", "4 0 4", "5 1 5");
+
+    // The FORMs of the large nodes of tableOfLarge().
+    private static final String BETWEEN_ENDS = "3 0 " + LEAST + " " + GREATEST;
+    private static final String PAIR = BETWEEN_ENDS + " 3 3 -1 1";
+    private static final String FIVE = "8 6 6 " + PAIR + " " + BETWEEN_ENDS + " 6 " + PAIR;
+    private static final String FOUR = "8 6 " + PAIR + " 8 " + PAIR;
+    private static final String NINE = "6 " + FIVE + " " + FOUR;
+    private static final String EIGHTEEN = "8 " + NINE + " 6 " + FOUR + " " + FIVE;
 
     public static void main(String[] args) {
         rules();
@@ -25,6 +38,8 @@ public final class FormBoundsTest {
         Check.sentence("The FORM of a node is: its kind; then ..", FormBoundsTest::forms);
         Check.sentence("The FORM of a node (the shortest and the longest)",
             FormBoundsTest::shortestAndLongestForm);
+        Check.sentence("REDUCING a node (at the far end of a large one)",
+            FormBoundsTest::reducedAtTheFarEnd);
         Check.sentence("22: The node is REDUCED .. how many numbers its FORM has then",
             FormBoundsTest::howManyNumbers);
         Check.sentence("22: (it stays as it is)", FormBoundsTest::nodeStaysAsItIs);
@@ -64,9 +79,6 @@ public final class FormBoundsTest {
         t.order(5, 1, 0, 0);
         return t;
     }
-
-    private static final List<String> FORMS =
-        List.of("0 0", "1 1", "2 2 5", "3 3 1 2", "4 0 4", "5 1 5");
 
     private static void expect(PreferTable t, int node, String due) {
         Check.same("the FORM", Check.form(t, node), due);
@@ -288,6 +300,41 @@ public final class FormBoundsTest {
         String five = "8 " + three + " " + two;
         String otherFive = "8 " + two + " " + three;
         return "8 6 " + five + " " + otherFive + " 6 " + otherFive + " " + five;
+    }
+
+    /** Terms of the SIZE 35 to 39 whose last part becomes shorter, or whose halves are ALIKE. */
+    private static void reducedAtTheFarEnd() {
+        expectOfLarge(t -> 9, EIGHTEEN);
+        expectOfLarge(t -> t.term(PARETO, 9, 11), "6 " + EIGHTEEN + " 1 2");
+        expectOfLarge(t -> t.term(PARETO, 9, t.term(DUAL, 11, 0)), "6 " + EIGHTEEN + " 0 2");
+        expectOfLarge(t -> t.term(PARETO, 9, t.term(BOTH, 10, 10)), "6 " + EIGHTEEN + " 0 2");
+        expectOfLarge(t -> t.term(PRIOR, 9, t.term(PARETO, 1, 0)), EIGHTEEN);
+        expectOfLarge(t -> t.term(BOTH, t.term(DUAL, 9, 0), t.term(DUAL, 1, 0)),
+            "9 8 " + EIGHTEEN + " 3 3 -1 1");
+        expectOfLarge(t -> t.term(BOTH, 7, t.term(PARETO, 4, 6)), NINE);
+    }
+
+    private static void expectOfLarge(ToIntFunction<PreferTable> node, String due) {
+        PreferTable t = tableOfLarge();
+        expect(t, node.applyAsInt(t), due);
+    }
+
+    /** Node 9 has eighteen times BETWEEN, nodes 7 and 8 nine times; 10 LOW, 11 DUAL of it. */
+    private static PreferTable tableOfLarge() {
+        PreferTable t = new PreferTable();
+        t.order(3, 0, LEAST, GREATEST);
+        t.order(3, 3, -1, 1);
+        t.term(PARETO, 0, 1);
+        t.term(PARETO, 2, 0);
+        t.term(BOTH, 3, 2);
+        t.term(BOTH, 0, 1);
+        t.term(BOTH, 2, 5);
+        t.term(PARETO, 4, 6);
+        t.term(PARETO, 6, 4);
+        t.term(BOTH, 7, 8);
+        t.order(0, 2, 0, 0);
+        t.term(DUAL, 10, 0);
+        return t;
     }
 
     private static void howManyNumbers() {
