@@ -38,8 +38,8 @@ public final class AnswerBoundsTest {
     }
 
     private static void grouped() {
-        Check.sentence("14: those with the same value in a column, for each value there is",
-            AnswerBoundsTest::oneGroupAndManyGroups);
+        Check.sentence("14: The ANSWER becomes the BEST rows among those with the same value in "
+            + "a column, for each value there is", AnswerBoundsTest::oneGroupAndManyGroups);
         Check.sentence("14: all together by rising numbers",
             AnswerBoundsTest::groupsByRisingNumbers);
         Check.sentence("14: IndexOutOfBoundsException if there is no such node",

@@ -13,9 +13,12 @@ public final class CompareBoundsTest {
             CompareBoundsTest::compareByNoSuchNode);
         Check.sentence("12: IndexOutOfBoundsException if there is no such .. row",
             CompareBoundsTest::compareNoSuchRow);
+        Check.sentence("18: Why row u is better than row v", CompareBoundsTest::whyBetter);
         Check.sentence("18: w = 0: the node that decides", CompareBoundsTest::whoDecides);
         Check.sentence("18: 1: how many nodes lie on the way to it, with both ends",
             CompareBoundsTest::shortestAndLongestWay);
+        Check.sentence("18: The way goes from the node itself", CompareBoundsTest::wayFromItself);
+        Check.sentence("18: an order decides", CompareBoundsTest::anOrderDecides);
         Check.sentence("18: in PARETO to p if that says BETTER, else to q",
             CompareBoundsTest::wayInPareto);
         Check.sentence("18: in PRIOR to p, but to q if p says SAME", CompareBoundsTest::wayInPrior);
@@ -123,6 +126,69 @@ public final class CompareBoundsTest {
         }
         expect(t, 0, 0, 1);
         expect(t, 23, 23, 1);
+    }
+
+    /** There is a reason just where compare says BETTER. */
+    private static void whyBetter() {
+        for (int node = 0; node < 14; node++) {
+            PreferTable t = Tables.some();
+            for (int u = 1; u <= 5; u++) {
+                for (int v = 1; v <= 5; v++) {
+                    boolean isBetter = t.compare(node, u, v) == 1;
+                    String text = " of node " + node + ", rows " + u + ", " + v;
+                    for (int w = 0; w <= 1; w++) {
+                        boolean isThere = t.reason(node, u, v, w) != PreferTable.NONE;
+                        Check.same("w = " + w + text, Boolean.toString(isThere),
+                            Boolean.toString(isBetter));
+                    }
+                }
+            }
+        }
+    }
+
+    /** A term adds one to the way of the node below it; an order has itself alone on its way. */
+    private static void wayFromItself() {
+        for (int order = 0; order < 6; order++) {
+            PreferTable t = Bounds.tableOf(0, 2, 7);
+            for (int i = 0; i <= order; i++) {
+                t.order(i, 0, 2, 3);
+            }
+            t.layer(order, 2, 0);
+            if (order == 5) {
+                t.edge(5, 2, 7);
+            }
+            int u = order == 1 ? 1 : 0;
+            Check.same("who decides in an order", t.reason(order, u, 1 - u, 0), order);
+            Check.same("the way of an order", t.reason(order, u, 1 - u, 1), 1);
+            for (int kind = 6; kind <= 8; kind++) {
+                int term = t.term(kind, order, order);
+                Check.same("who decides in a term", t.reason(term, u, 1 - u, 0), order);
+                Check.same("the way of a term", t.reason(term, u, 1 - u, 1), 2);
+            }
+            int dual = t.term(9, order, 0);
+            Check.same("who decides in DUAL", t.reason(dual, 1 - u, u, 0), order);
+            Check.same("the way of DUAL", t.reason(dual, 1 - u, u, 1), 2);
+        }
+    }
+
+    /** The one that decides says BETTER of both rows too, or WORSE under DUALs. */
+    private static void anOrderDecides() {
+        for (int node = 0; node < 14; node++) {
+            PreferTable t = Tables.some();
+            int found = 0;
+            for (int u = 1; u <= 5; u++) {
+                for (int v = 1; v <= 5; v++) {
+                    int decider = t.reason(node, u, v, 0);
+                    if (decider != PreferTable.NONE) {
+                        found++;
+                        Check.yes("nodes 0 to 5 are orders", decider >= 0 && decider < 6);
+                        int verdict = t.compare(decider, u, v);
+                        Check.yes("it says BETTER or WORSE", verdict == 1 || verdict == 2);
+                    }
+                }
+            }
+            Check.yes("node " + node + " says BETTER of some rows", found > 0);
+        }
     }
 
     private static void shortestAndLongestWay() {

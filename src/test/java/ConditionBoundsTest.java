@@ -5,7 +5,7 @@ public final class ConditionBoundsTest {
 
     public static void main(String[] args) {
         Check.sentence("CONDITIONS, at most 4", ConditionBoundsTest::atMost4);
-        Check.sentence("an operation 0 =, 1 not =, 2 <, 3 <=, 4 >, 5 >=, and a number",
+        Check.sentence("a column, an operation 0 =, 1 not =, 2 <, 3 <=, 4 >, 5 >=, and a number",
             ConditionBoundsTest::operationsRoundANumber);
         Check.sentence("and a number (the least and the greatest)", ConditionBoundsTest::atTheEnds);
         Check.sentence("A row PASSES if all hold", ConditionBoundsTest::eachOneCounts);

@@ -14,12 +14,16 @@ public final class FaceTest {
     private static final String BOTH = " throws IllegalArgumentException, IllegalStateException";
 
     private static final Set<String> FACE = Set.of(
-        "int row(4)" + STATE, "boolean change(3)", "boolean remove(1)", "int value(2)" + INDEX,
-        "int order(4)" + BOTH, "boolean layer(3)", "boolean edge(3)" + BOTH, "int term(3)" + BOTH,
-        "int condition(3)" + BOTH, "void free(0)", "int compare(3)" + INDEX, "int best(1)" + INDEX,
-        "int grouped(2)" + INDEX, "int top(2)" + INDEX + ", IllegalArgumentException",
-        "int level(2)" + INDEX, "int answer(1)", "int reason(4)" + INDEX, "int save(2)" + INDEX,
-        "int saved(3)", "boolean read(1)", "int reduce(1)" + INDEX, "int form(1)" + INDEX);
+        "int row(int, int, int, int)" + STATE, "boolean change(int, int, int)",
+        "boolean remove(int)", "int value(int, int)" + INDEX,
+        "int order(int, int, int, int)" + BOTH, "boolean layer(int, int, int)",
+        "boolean edge(int, int, int)" + BOTH, "int term(int, int, int)" + BOTH,
+        "int condition(int, int, int)" + BOTH, "void free()", "int compare(int, int, int)" + INDEX,
+        "int best(int)" + INDEX, "int grouped(int, int)" + INDEX,
+        "int top(int, int)" + INDEX + ", IllegalArgumentException",
+        "int level(int, int)" + INDEX, "int answer(int)", "int reason(int, int, int, int)" + INDEX,
+        "int save(int, int)" + INDEX, "int saved(int, int, int)", "boolean read(int)",
+        "int reduce(int)" + INDEX, "int form(int)" + INDEX);
 
     public static void main(String[] args) throws ReflectiveOperationException {
         classAndConstant();
@@ -49,13 +53,15 @@ public final class FaceTest {
         Constructor<?>[] constructors = PreferTable.class.getDeclaredConstructors();
         Check.same("one constructor", constructors.length, 1);
         Check.same("without parameters", constructors[0].getParameterCount(), 0);
+        Check.same("that throws nothing", constructors[0].getExceptionTypes().length, 0);
         Check.yes("that is public", Modifier.isPublic(constructors[0].getModifiers()));
         for (Field field : PreferTable.class.getDeclaredFields()) {
             boolean isNone = field.getName().equals("NONE");
             Check.yes(field + " is private", isNone || Modifier.isPrivate(field.getModifiers()));
         }
         Field none = PreferTable.class.getField("NONE");
-        Check.same("NONE", none.getInt(null), -1);
+        Check.same("NONE", Modifier.toString(none.getModifiers()) + " " + none.getType() + " = "
+            + none.getInt(null), "public static final int = -1");
     }
 
     private static void methods() {
@@ -63,6 +69,7 @@ public final class FaceTest {
         for (Method method : PreferTable.class.getDeclaredMethods()) {
             if (Modifier.isPublic(method.getModifiers())) {
                 found.add(written(method));
+                Check.no(method + " is static", Modifier.isStatic(method.getModifiers()));
             } else {
                 Check.yes(method + " is private", Modifier.isPrivate(method.getModifiers()));
             }
@@ -73,13 +80,19 @@ public final class FaceTest {
     private static String written(Method method) {
         StringBuilder text = new StringBuilder(method.getReturnType().toString());
         text.append(' ').append(method.getName());
-        text.append('(').append(method.getParameterCount()).append(')');
-        String before = " throws ";
-        for (Class<?> thrown : method.getExceptionTypes()) {
-            text.append(before).append(thrown.getSimpleName());
-            before = ", ";
+        text.append('(').append(listed(method.getParameterTypes())).append(')');
+        if (method.getExceptionTypes().length > 0) {
+            text.append(" throws ").append(listed(method.getExceptionTypes()));
         }
         return text.toString();
+    }
+
+    private static String listed(Class<?>[] types) {
+        List<String> names = new ArrayList<>();
+        for (Class<?> type : types) {
+            names.add(type.getSimpleName());
+        }
+        return String.join(", ", names);
     }
 
     private static Set<String> faceNames() {

@@ -35,7 +35,10 @@ public final class FormBoundsTest {
             FormBoundsTest::alikeByWhatCounts);
         Check.sentence("or are made of nodes that are ALIKE, one by one",
             FormBoundsTest::alikeByParts);
-        Check.sentence("The FORM of a node is: its kind; then ..", FormBoundsTest::forms);
+        Check.sentence("The FORM of a node is: its kind; then, for an order, its .. column, and "
+            + "for the kinds 2 and 3 a (and b), for 4 and 5 the number of its node",
+            FormBoundsTest::formsOfOrders);
+        Check.sentence("for a term the FORMs of what it is made of", FormBoundsTest::formsOfTerms);
         Check.sentence("The FORM of a node (the shortest and the longest)",
             FormBoundsTest::shortestAndLongestForm);
         Check.sentence("REDUCING a node (at the far end of a large one)",
@@ -64,7 +67,9 @@ public final class FormBoundsTest {
             FormBoundsTest::priorOfColumnsInside);
         Check.sentence("PARETO or BOTH of DUAL p, DUAL q is the DUAL of PARETO or BOTH of p, q",
             FormBoundsTest::dualsPulledOut);
-        Check.sentence("The COLUMNS of a node are .. all those of the nodes that it is made of",
+        Check.sentence("(which is reduced, too)", FormBoundsTest::pulledOutOfReducedParts);
+        Check.sentence("The COLUMNS of a node are its own", FormBoundsTest::columnOfAnOrder);
+        Check.sentence("or all those of the nodes that it is made of",
             FormBoundsTest::columnsOfTerms);
     }
 
@@ -142,6 +147,19 @@ public final class FormBoundsTest {
         expect(t, t.term(PRIOR, 1, 3), "7 1 1 3 3 1 2");
     }
 
+    private static void columnOfAnOrder() {
+        for (int own = 0; own < 4; own++) {
+            for (int other = 0; other < 4; other++) {
+                PreferTable t = new PreferTable();
+                t.order(2, own, 1, 0);
+                t.order(1, other, 0, 0);
+                t.term(PRIOR, 0, 1);
+                String p = "2 " + own + " 1";
+                expect(t, 2, own == other ? p : "7 " + p + " 1 " + other);
+            }
+        }
+    }
+
     private static void columnsOfTerms() {
         PreferTable t = table();
         int all = t.term(BOTH, t.term(PRIOR, 0, 1), t.term(PARETO, 2, 3));
@@ -170,6 +188,19 @@ public final class FormBoundsTest {
         PreferTable t = table();
         int p = t.term(DUAL, 2, 0);
         expect(t, t.term(PRIOR, p, t.term(DUAL, 3, 0)), "7 9 2 2 5 9 3 3 1 2");
+    }
+
+    /** Parts that are DUALs only when they have been reduced, of nodes that become shorter. */
+    private static void pulledOutOfReducedParts() {
+        for (int kind = PARETO; kind <= BOTH; kind += 2) {
+            PreferTable t = table();
+            int p = t.term(DUAL, t.term(PARETO, 2, 2), 0);
+            int q = t.term(PARETO, t.term(DUAL, 3, 0), t.term(DUAL, 4, 0));
+            expect(t, t.term(kind, p, q), "9 " + kind + " 2 2 5 6 3 3 1 2 4 0 4");
+            int r = t.term(DUAL, t.term(BOTH, t.term(DUAL, 0, 0), t.term(PRIOR, 5, 1)), 0);
+            expect(t, t.term(kind, r, p), "9 " + kind + " 8 1 0 5 1 5 2 2 5");
+            expect(t, t.term(DUAL, t.term(kind, r, p), 0), kind + " 8 1 0 5 1 5 2 2 5");
+        }
     }
 
     private static void partsAreReducedFirst() {
@@ -245,16 +276,25 @@ public final class FormBoundsTest {
         expect(t, t.term(BOTH, dual, one), "8 9 6 0 0 2 2 5 6 0 0 2 2 5");
     }
 
-    private static void forms() {
+    private static void formsOfTerms() {
         PreferTable t = table();
-        for (int node = 0; node < 6; node++) {
-            expect(t, node, FORMS.get(node));
-        }
         for (int kind = PARETO; kind <= BOTH; kind++) {
             expect(t, t.term(kind, 2, 3), kind + " 2 2 5 3 3 1 2");
             expect(t, t.term(kind, 5, 4), kind + " 5 1 5 4 0 4");
         }
         expect(t, t.term(DUAL, 3, 0), "9 3 3 1 2");
+        int pareto = t.term(PARETO, 0, 1);
+        int prior = t.term(PRIOR, 2, pareto);
+        expect(t, prior, "7 2 2 5 6 0 0 1 1");
+        expect(t, t.term(BOTH, prior, t.term(DUAL, pareto, 0)),
+            "8 7 2 2 5 6 0 0 1 1 9 6 0 0 1 1");
+    }
+
+    private static void formsOfOrders() {
+        PreferTable t = table();
+        for (int node = 0; node < 6; node++) {
+            expect(t, node, FORMS.get(node));
+        }
         PreferTable ends = new PreferTable();
         ends.order(2, 3, LEAST, 0);
         ends.order(2, 0, GREATEST, 0);

@@ -11,8 +11,9 @@ public final class RowBoundsTest {
         Check.sentence("a number does not come back", RowBoundsTest::numbersDoNotComeBack);
         Check.sentence("A row has a VALUE, an int, in each of the COLUMNS 0 .. 3",
             RowBoundsTest::anyIntInEachColumn);
-        Check.sentence("The constants: NONE = -1", RowBoundsTest::noneIsMinusOne);
+        Check.sentence("The constants: `NONE = -1`: There is none", RowBoundsTest::noneIsMinusOne);
         newObject();
+        Check.sentence("2: A new row: its number", RowBoundsTest::newRowByItsNumber);
         Check.sentence("2: IllegalStateException if there were 120", RowBoundsTest::noRowAfter120);
         Check.sentence("2: IllegalStateException if .. 24 are there", RowBoundsTest::noRowBeside24);
         Check.sentence("3: A row's value in a column becomes v: true",
@@ -105,6 +106,30 @@ public final class RowBoundsTest {
 
     private static void noneIsMinusOne() {
         Check.same("NONE", PreferTable.NONE, -1);
+        PreferTable t = Bounds.withRows(2);
+        t.order(0, 0, 0, 0);
+        Check.same("a row of an empty ANSWER", t.answer(0), PreferTable.NONE);
+        Check.same("a reason that there is not", t.reason(0, 1, 0, 0), PreferTable.NONE);
+        Check.same("a question that there is not", t.saved(0, 0, -1), PreferTable.NONE);
+    }
+
+    /** The number that row() answers is the one by which all other calls know the row. */
+    private static void newRowByItsNumber() {
+        PreferTable t = new PreferTable();
+        t.order(0, 3, 0, 0);
+        for (int i = 0; i < 10; i++) {
+            int row = t.row(i, -i, i * i, 9 - i);
+            Check.same("its value in column 0", t.value(row, 0), i);
+            Check.same("its value in column 1", t.value(row, 1), -i);
+            Check.same("its value in column 2", t.value(row, 2), i * i);
+            Check.same("its value in column 3", t.value(row, 3), 9 - i);
+            Check.same("its LEVEL", t.level(0, row), 1);
+            Check.same("it is BEST", t.best(0), 1);
+            Check.same("by its number", t.answer(0), row);
+            if (i % 3 == 0) {
+                Check.yes("it goes by its number", t.remove(row));
+            }
+        }
     }
 
     private static void newHasNoRows() {
