@@ -17,16 +17,6 @@ public final class OrdersTest {
         Check.end();
     }
 
-    /** A table whose row i has the value values[i] in a column, and i elsewhere. */
-    private static PreferTable tableOf(int column, int... values) {
-        PreferTable t = new PreferTable();
-        for (int i = 0; i < values.length; i++) {
-            t.row(i, i, i, i);
-            t.change(i, column, values[i]);
-        }
-        return t;
-    }
-
     /** What node 0 says of every two rows, a line of digits for each u. */
     private static String says(PreferTable t, int rows) {
         StringBuilder all = new StringBuilder();
@@ -62,40 +52,40 @@ public final class OrdersTest {
     }
 
     private static void lowAndHigh() {
-        PreferTable low = tableOf(1, 5, 5, MIN, MAX);
+        PreferTable low = Bounds.tableOf(1, 5, 5, MIN, MAX);
         low.order(0, 1, 0, 0);
         Check.same("LOW", says(low, 4), "3321 3321 1131 2223");
-        PreferTable high = tableOf(3, 5, 5, MIN, MAX);
+        PreferTable high = Bounds.tableOf(3, 5, 5, MIN, MAX);
         high.order(1, 3, 0, 0);
         Check.same("HIGH", says(high, 4), "3312 3312 2232 1113");
     }
 
     private static void around() {
-        PreferTable t = tableOf(0, 8, 12, 10, 8, 13);
+        PreferTable t = Bounds.tableOf(0, 8, 12, 10, 8, 13);
         t.order(2, 0, 10, 99);
         Check.same("AROUND 10", says(t, 5), "30231 03201 11311 30231 22223");
-        PreferTable far = tableOf(2, MIN, MAX, 0);
+        PreferTable far = Bounds.tableOf(2, MIN, MAX, 0);
         far.order(2, 2, MAX, 0);
         Check.same("AROUND the greatest", says(far, 3), "322 131 123");
-        PreferTable even = tableOf(2, MIN, MAX);
+        PreferTable even = Bounds.tableOf(2, MIN, MAX);
         even.order(2, 2, -1, 0);
         Check.same("AROUND -1: one farther", says(even, 2), "31 23");
     }
 
     private static void between() {
-        PreferTable t = tableOf(2, 3, 6, 4, 1, 8, 9);
+        PreferTable t = Bounds.tableOf(2, 3, 6, 4, 1, 8, 9);
         t.order(3, 2, 3, 6);
         Check.same("BETWEEN 3, 6", says(t, 6), "300111 030111 003111 222301 222031 222223");
-        PreferTable far = tableOf(0, MIN, MAX, -5);
+        PreferTable far = Bounds.tableOf(0, MIN, MAX, -5);
         far.order(3, 0, -10, -1);
         Check.same("BETWEEN -10, -1", says(far, 3), "312 232 113");
-        PreferTable all = tableOf(0, MIN, MAX, 0);
+        PreferTable all = Bounds.tableOf(0, MIN, MAX, 0);
         all.order(3, 0, MIN, MAX);
         Check.same("BETWEEN all", says(all, 3), "300 030 003");
     }
 
     private static void layers() {
-        PreferTable t = tableOf(1, 0, 9, 4, 11, -1, 4);
+        PreferTable t = Bounds.tableOf(1, 0, 9, 4, 11, -1, 4);
         t.order(4, 1, 0, 0);
         Check.same("no layers yet", says(t, 6), "300000 030000 003003 000300 000030 003003");
         Check.yes("layer(0, 0, 5)", t.layer(0, 0, 5));
@@ -109,7 +99,7 @@ public final class OrdersTest {
     }
 
     private static void wrongLayersAreRefused() {
-        PreferTable t = tableOf(0, 0, 1);
+        PreferTable t = Bounds.tableOf(0, 0, 1);
         t.order(4, 0, 0, 0);
         t.order(5, 0, 0, 0);
         t.order(0, 0, 0, 0);
@@ -129,7 +119,7 @@ public final class OrdersTest {
     }
 
     private static void graph() {
-        PreferTable t = tableOf(3, 0, 1, 2, 9, 10, 2);
+        PreferTable t = Bounds.tableOf(3, 0, 1, 2, 9, 10, 2);
         t.order(5, 3, 0, 0);
         Check.same("no edges yet", says(t, 6), "300000 030000 003003 000300 000030 003003");
         Check.yes("edge(0, 1, 2)", t.edge(0, 1, 2));
@@ -146,7 +136,7 @@ public final class OrdersTest {
     }
 
     private static void graphHasNoCircles() {
-        PreferTable t = tableOf(0, 0, 1);
+        PreferTable t = Bounds.tableOf(0, 0, 1);
         t.order(5, 0, 0, 0);
         t.order(4, 0, 0, 0);
         t.term(9, 0, 0);
@@ -170,7 +160,7 @@ public final class OrdersTest {
     }
 
     private static void compareLooksAtItsArguments() {
-        PreferTable t = tableOf(0, 1, 2);
+        PreferTable t = Bounds.tableOf(0, 1, 2);
         t.order(0, 0, 0, 0);
         Check.outside("compare(1, 0, 1)", () -> t.compare(1, 0, 1));
         Check.outside("compare(-1, 0, 1)", () -> t.compare(-1, 0, 1));

@@ -20,7 +20,7 @@ public final class WhatItIsTest {
 
     // Rows of which the orders of addOrders() say all kinds of things.
     private static final int[][] ROWS = {
-        {0, 0, 0, 0}, {1, 2, 1, 1}, {0, 1, 2, 2}, {2, 1, 3, 3}, {1, 2, 1, 1}, {2, 0, 3, 4},
+        {0, 0, 0, 0}, {1, 2, 1, 1}, {0, 1, 2, 2}, {2, 1, 3, 3}, {1, 2, 1, 1}, {2, 0, 3, 2},
     };
 
     public static void main(String[] args) {
@@ -151,7 +151,7 @@ public final class WhatItIsTest {
         }
     }
 
-    /** Of each two of the orders and their DUALs: a term, its DUAL, and a term of these two. */
+    /** Of each two of the orders and their DUALs: a term, its DUAL, and terms of these. */
     private static void simplerTermsSayTheSame() {
         for (int kind = PARETO; kind <= BOTH; kind++) {
             for (int p = 0; p < 16; p++) {
@@ -165,10 +165,12 @@ public final class WhatItIsTest {
                     int size = 1 + (p < 8 ? 1 : 2) + (q < 8 ? 1 : 2);
                     int term = t.term(kind, p, q);
                     int dual = t.term(DUAL, term, 0);
-                    int above = t.term(PARETO + (p + q) % 3, dual, term);
+                    int ofBoth = t.term(PARETO + (p + q) % 3, dual, term);
+                    int withAnother = t.term(PARETO + (p + q) % 3, (p * 5 + q * 3) % 8, term);
                     expectTheSame(t, term, size);
                     expectTheSame(t, dual, size + 1);
-                    expectTheSame(t, above, 2 * size + 2);
+                    expectTheSame(t, ofBoth, 2 * size + 2);
+                    expectTheSame(t, withAnother, size + 2);
                 }
             }
         }
